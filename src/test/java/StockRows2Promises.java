@@ -1,4 +1,5 @@
 import java.util.function.IntSupplier;
+import java.util.stream.IntStream;
 
 /** Each promise of the document by itself: ordinary inputs, the edges that it names, and wrong inputs. */
 public final class StockRows2Promises {
@@ -40,6 +41,7 @@ public final class StockRows2Promises {
         tableRows();
         dipping();
         ticking();
+        fullObject();
         System.out.println(wrong == 0 ? "every promise holds" : wrong + " answers are not as due");
         if (wrong != 0) {
             System.exit(1);
@@ -254,15 +256,17 @@ public final class StockRows2Promises {
     }
 
     private static void takingOrder() {
+        takenInOrder(new int[] {9, 7, 7, 7, 8, 7}, new int[] {1, 5, 3, 3, 1, 4}, new int[] {2, 3, 5, 1, 4, 0});
+        takenInOrder(new int[] {6, 6, 9, 6}, new int[] {2, 2, 1, 3}, new int[] {0, 1, 3, 2});
+    }
+
+    private static void takenInOrder(int[] ends, int[] there, int[] order) {
         StockRows2 x = withStores(1);
-        int[] ends = {9, 7, 7, 7, 8, 7};
-        int[] there = {1, 5, 3, 3, 1, 4};
         for (int lot = 0; lot < ends.length; lot++) {
             x.lot(2, ends[lot]);
             x.bring(0, lot, there[lot]);
         }
-        int[] order = {2, 3, 5, 1, 4, 0};
-        int left = 17;
+        int left = IntStream.of(there).sum();
         for (int lot : order) {
             due("use of one", left - 1, x.use(0, 2, 1));
             due("has(0, " + lot + ") after one was taken", there[lot] - 1, x.has(0, lot));
@@ -341,6 +345,8 @@ public final class StockRows2Promises {
         refuses("level(0, 0, 5, 10000)", RANGE, () -> levelOf(x, 0, 0, 5, 10_000));
         refuses("level(0, 0, 10000, 10000)", RANGE, () -> levelOf(x, 0, 0, 10_000, 10_000));
         due("orders() after refused levels", 0, x.orders());
+        x.level(0, 0, 0, 0);
+        due("orders() with a level of 0 and 0", 0, x.orders());
         x.level(0, 0, 0, 9_999);
         due("orders() with a least of 0", 0, x.orders());
         x.level(0, 0, 9_999, 9_999);
@@ -637,6 +643,12 @@ public final class StockRows2Promises {
         due("give(0, 1) when kind 6 has ended", 6, x.give(0, 1));
         x.tick(4);
         due("give(0, 1) when both have ended", 2, x.give(0, 1));
+        x.kit(2, 0, 1);
+        x.lot(1, 99);
+        x.bring(0, 3, 5);
+        x.kit(2, 1, 1);
+        due("give(0, 2) when kind 0 is lacking", 0, x.give(0, 2));
+        due("has(0, 3) when nothing is given", 5, x.has(0, 3));
     }
 
     private static int backOf(StockRows2 x, int store, int lot, int n) {
@@ -824,5 +836,36 @@ public final class StockRows2Promises {
         x.level(1, 0, 100, 100);
         x.orders();
         orderIs(x, 0, 1, 0, 100 - 13, 9_999, 1);
+    }
+
+    /** Everything that has a bound is at it: no loop may go a step beyond. */
+    private static void fullObject() {
+        StockRows2 x = withStores(8);
+        for (int lot = 0; lot < 60; lot++) {
+            x.lot(lot % 10, 20);
+            x.bring(7, lot, 10);
+        }
+        for (int move = 0; move < 60; move++) {
+            x.move(7, 6, move, 1, 30);
+        }
+        for (int kind = 0; kind < 10; kind++) {
+            for (int store = 0; store < 8; store++) {
+                x.level(store, kind, 9_998, 9_999);
+            }
+        }
+        due("orders() of 80 levels", 80, x.orders());
+        x.level(7, 9, 9_999, 9_999);
+        due("orders() of a full object", 0, x.orders());
+        due("sum(6, 9, 0)", 0, x.sum(6, 9, 0));
+        due("sum(6, 9, 2)", 6, x.sum(6, 9, 2));
+        due("sum(7, 9, 0)", 54, x.sum(7, 9, 0));
+        due("lotAt(59, 5)", 9, x.lotAt(59, 5));
+        due("use(7, 9, 54)", 0, x.use(7, 9, 54));
+        due("lotAt(59, 2)", 9, x.lotAt(59, 2));
+        due("tick(30)", 60, x.tick(30));
+        due("sum(6, 9, 1)", 6, x.sum(6, 9, 1));
+        due("orders() of a full object, later", 0, x.orders());
+        due("deliver(79, 59)", 9_999 - 54, x.deliver(79, 59));
+        due("lotAt(59, 5) in two stores", 9_999 - 54 + 1, x.lotAt(59, 5));
     }
 }
